@@ -592,7 +592,7 @@ public final class Urnwright {
         /** The COUNTS ahead of each DRAW: RULES may be others by the time it is taken back. */
         private final int[] countsBefore = new int[COLOURS * MOST_DRAWS];
         private int stopKind;
-        private int stopNumber = 1;
+        private int stopNumber;
         private int gain;
         private int path;
         private int draws;

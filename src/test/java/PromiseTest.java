@@ -1,3 +1,6 @@
+import java.util.ArrayList;
+import java.util.List;
+
 /** Promise by promise: ordinary inputs, the edges that the document names, and wrong inputs. */
 public final class PromiseTest {
     private static final Class<IndexOutOfBoundsException> INDEX = IndexOutOfBoundsException.class;
@@ -208,6 +211,11 @@ public final class PromiseTest {
         Check.throwing("8 no fifth", STATE, () -> x.row(0, 1, 0, 0, 0));
         Check.throwing("8 a wrong fifth", ARGUMENT, () -> x.row(0, 0, 0, 0, 0));
         Check.same("8 told", 4, () -> x.many(1));
+        Urnwright y = new Urnwright();
+        Check.same("8 two alike", 0, () -> y.row(1, 1, 0, 0, 0));
+        Check.same("8 two others alike", 1, () -> y.row(1, 0, 1, 0, 0));
+        Check.same("8 two more", 2, () -> y.row(1, 0, 0, 1, 0));
+        Check.same("8 the first and the last", 3, () -> y.row(1, 0, 0, 0, 1));
     }
 
     private static void chance() {
@@ -333,6 +341,9 @@ public final class PromiseTest {
         fraction("15 kind 2 time", 2, 1, () -> x.stopped(0, 3, true, false), () -> x.stopped(0, 3, true, true));
         x.stop(0, 3, 2);
         fraction("15 kind 3 time", 5, 2, () -> x.stopped(0, 4, true, false), () -> x.stopped(0, 4, true, true));
+        Urnwright third = with(0, 0, 1, 0);
+        third.stop(0, 3, 3);
+        fraction("15 kind 3 of the third", 3, 1, () -> third.stopped(0, 4, true, false), () -> third.stopped(0, 4, true, true));
         x.draw(0, 0);
         x.draw(0, 0);
         fraction("15 only in the game", 5, 2, () -> x.stopped(0, 4, true, false), () -> x.stopped(0, 4, true, true));
@@ -361,6 +372,7 @@ public final class PromiseTest {
         fraction("17 nothing is that far", 1, 400, () -> x.slack(0, 1, 20, false), () -> x.slack(0, 1, 20, true));
         x.pay(0, 0, -2);
         fraction("17 without its sign", 0, 1, () -> x.slack(0, 1, 2, false), () -> x.slack(0, 1, 2, true));
+        fraction("17 some", 9, 32, () -> paying(counts(1, 1, 0), 0, 5).slack(0, 1, 4, false), () -> paying(counts(1, 1, 0), 0, 5).slack(0, 1, 4, true));
         fraction("17 no steps", 0, 1, () -> x.slack(0, 0, 1, false), () -> x.slack(0, 0, 1, true));
         Check.throwing("17 limit", ARGUMENT, () -> x.slack(0, 1, 21, false));
         Check.throwing("17 limit below", ARGUMENT, () -> x.slack(0, 1, 0, false));
@@ -494,6 +506,7 @@ public final class PromiseTest {
     private static void tilt() {
         Check.same("25 a quarter", 0.25, () -> with(2, 0, 1, 0).tilt(0));
         Check.same("25 its own sign", -1.25, () -> with(0, 0, 5, 0).tilt(0));
+        Check.same("25 little below 0", -0.25, () -> with(1, 0, 2, 0).tilt(0));
         Check.same("25 nothing", 0.0, () -> with(3, 1, 3, 0).tilt(0));
         Urnwright x = paying(counts(0, 1, 5), 3, 0, 0, 1);
         x.draw(0, 2);
@@ -512,6 +525,10 @@ public final class PromiseTest {
         Check.same("26 two thirds", 67.0, () -> with(2, 1, 0, 0).percent(0, 0));
         Check.same("26 a half to the even one below", 12.0, () -> with(1, 5, 2, 0).percent(0, 0));
         Check.same("26 a half to the even one above", 38.0, () -> with(3, 5, 0, 0).percent(0, 0));
+        Check.same("26 five eighths", 62.0, () -> with(5, 1, 2, 0).percent(0, 0));
+        Urnwright seven = with(5, 1, 0, 2);
+        seven.draw(0, 0);
+        Check.same("26 seven eighths", 88.0, () -> seven.percent(0, 0));
         Check.same("26 all", 100.0, () -> with(0, 0, 1, 0).percent(0, 2));
         Check.same("26 nothing", 0.0, () -> with(0, 0, 1, 0).percent(0, 1));
         Urnwright x = with(1, 0, 0, -1);
@@ -587,6 +604,56 @@ public final class PromiseTest {
         }
         Check.same("30 one of each", d, x::digest);
         Check.same("30 nothing is changed", d, x::digest);
+        manyDigests();
+    }
+
+    /** Digests of objects with answers of all kinds, against the other answers in the order that the document tells. */
+    private static void manyDigests() {
+        Urnwright x = paying(counts(1, 2, 3), 2, 4, -3, 1);
+        x.rule(0, 1, 0, 0, 2);
+        x.stop(0, 1, 3);
+        Check.same("30 one urn", digestOf(x, 3), x::digest);
+        x.urn(2, 1, 2, -1);
+        x.pay(1, 0, -5);
+        x.pay(1, 1, 5);
+        x.stop(1, 3, 2);
+        x.draw(1, 2);
+        x.back(0);
+        Check.same("30 two urns", digestOf(x, 3, 3), x::digest);
+        x.draw(1, 1);
+        x.draw(1, 0);
+        x.row(1, 1, 0, 0, 0);
+        x.row(0, 1, 1, 1, 0);
+        x.row(3, 0, 0, 2, 2);
+        Check.same("30 fewer steps, and rows", digestOf(x, 3, 2), x::digest);
+    }
+
+    private static long digestOf(Urnwright x, int... steps) {
+        List<Long> numbers = new ArrayList<>();
+        for (int what = 0; what <= 6; what++) {
+            numbers.add((long) x.many(what));
+        }
+        for (int urn = 0; urn < steps.length; urn++) {
+            int s = steps[urn];
+            for (int what = 0; what <= 9; what++) {
+                numbers.add((long) x.ofUrn(urn, what));
+            }
+            numbers.addAll(List.of(x.mean(urn, s, false, false), x.mean(urn, s, false, true), x.mean(urn, s, true, false), x.mean(urn, s, true, true)));
+            numbers.addAll(List.of((long) x.unfair(urn, s), (long) x.ordered(urn, s)));
+            numbers.addAll(List.of(x.stopped(urn, s, false, false), x.stopped(urn, s, false, true)));
+            numbers.addAll(List.of(x.stopped(urn, s, true, false), x.stopped(urn, s, true, true)));
+            numbers.addAll(List.of(x.worth(urn, s, 1, false), x.worth(urn, s, 1, true)));
+        }
+        for (int one = 0; one < x.many(1); one++) {
+            for (int other = 0; other < x.many(1); other++) {
+                numbers.addAll(List.of(x.distance(one, other, false), x.distance(one, other, true)));
+            }
+        }
+        long d = 58240;
+        for (long v : numbers) {
+            d = d * 31 + v;
+        }
+        return d;
     }
 
     private static void order() {
