@@ -9,6 +9,8 @@ import java.util.Random;
 /** Runs of calls on an Urnwright and a Court side by side: each call must answer, or throw, the same. */
 public final class CourtTest {
     private static final int[] FAR_OFF = {Integer.MIN_VALUE, Integer.MAX_VALUE, -1, 21, 11111, 1 << 30};
+    /** An object promises nothing about the calls behind these; the last one of a run is digest(). */
+    private static final int MOST_CALLS = 512;
     private static final int[] PATH_DIGITS = {1, 2, 3};
     private final Random random;
     private final List<Method> methods = new ArrayList<>();
@@ -25,7 +27,7 @@ public final class CourtTest {
 
     public static void main(String[] args) throws Exception {
         for (int run = 0; run < 400; run++) {
-            new CourtTest(run).run(run, 512);
+            new CourtTest(run).run(run, MOST_CALLS - 1);
         }
         everyWalkAndDeck();
         Check.end();
@@ -142,28 +144,33 @@ public final class CourtTest {
     }
 
     private static void everyWalkAndDeck() {
-        Urnwright urnwright = new Urnwright();
         Court court = new Court();
-        for (boolean isBelow : new boolean[] {false, true}) {
-            for (int n = 2; n <= 8; n++) {
-                for (int from = 0; from <= n; from++) {
-                    for (int ratio = 0; ratio < 32; ratio++) {
-                        int k = from;
-                        int end = n;
-                        int up = ratio / 4 % 4 + 1;
-                        int down = ratio % 4 + 1;
-                        boolean isWait = ratio >= 16;
-                        Check.same("walk " + k + " " + end + " " + up + " " + down + " " + isWait + " " + isBelow,
-                                court.walk(k, end, up, down, isWait, isBelow), () -> urnwright.walk(k, end, up, down, isWait, isBelow));
-                    }
-                }
+        for (int n = 2; n <= 8; n++) {
+            for (int from = 0; from <= n; from++) {
+                walksFrom(court, from, n);
             }
-            for (int cards = 1; cards <= 5; cards++) {
-                for (int times = 0; times <= 7; times++) {
-                    int c = cards;
-                    int t = times;
-                    Check.same("far " + c + " " + t + " " + isBelow, court.far(c, t, isBelow), () -> urnwright.far(c, t, isBelow));
-                }
+        }
+        Urnwright urnwright = new Urnwright();
+        for (int cards = 1; cards <= 5; cards++) {
+            for (int times = 0; times <= 7; times++) {
+                int c = cards;
+                int t = times;
+                Check.fraction("far " + c + " " + t, court.far(c, t, false), court.far(c, t, true), b -> urnwright.far(c, t, b));
+            }
+        }
+    }
+
+    private static void walksFrom(Court court, int from, int n) {
+        Urnwright urnwright = new Urnwright();
+        for (int up = 1; up <= 4; up++) {
+            for (int down = 1; down <= 4; down++) {
+                int u = up;
+                int v = down;
+                String told = from + " " + n + " " + u + " " + v;
+                Check.fraction("walk " + told, court.walk(from, n, u, v, false, false), court.walk(from, n, u, v, false, true),
+                        b -> urnwright.walk(from, n, u, v, false, b));
+                Check.fraction("wait " + told, court.walk(from, n, u, v, true, false), court.walk(from, n, u, v, true, true),
+                        b -> urnwright.walk(from, n, u, v, true, b));
             }
         }
     }

