@@ -37,6 +37,8 @@ public final class EdgeTest {
         tilts();
         knocks();
         back();
+        gains();
+        spread();
         given();
         slack();
         texts();
@@ -437,6 +439,8 @@ public final class EdgeTest {
     }
 
     private static void worth() {
+        Check.sentence("Returns the WORTH of the empty PATH, as a FRACTION.");
+        Check.fraction("whatever was drawn", 5, 2, b -> after(coin(5, -5), 0, 0, 0).worth(0, 1, 0, b));
         Check.sentence("of a NODE its PRIZE, or the mean WORTH behind the next DRAW, whichever is more.");
         Check.fraction("behind it", 1, 2, b -> coin(1, -1).worth(0, 2, 0, b));
         Check.fraction("its prize", 9, 1, b -> coin(0, -1).worth(0, 4, -9, b));
@@ -681,6 +685,27 @@ public final class EdgeTest {
         Check.same("by rules as they are now", "1-1-3|-22", () -> after(x, 0).text(0));
     }
 
+    private static void gains() {
+        Check.sentence("Returns the chance that the YIELD of the GAME is just that, as a FRACTION.");
+        Urnwright x = sure(5);
+        int[] others = {19, 21, 0, -20, 20 + 1000, Integer.MAX_VALUE, Integer.MIN_VALUE};
+        Check.fraction("the most there can be", 1, 1, b -> x.gains(0, 4, 20, b));
+        Check.fraction("the least there can be", 1, 1, b -> sure(-5).gains(0, 4, -20, b));
+        for (int other : others) {
+            Check.fraction("another one " + other, 0, 1, b -> x.gains(0, 4, other, b));
+        }
+    }
+
+    private static void spread() {
+        Check.sentence("whether the mean of squares of YIELD less the square of its mean, otherwise the mean of YIELD");
+        Check.fraction("the most", 100, 1, b -> coin(5, -5).mean(0, 4, true, b));
+        Check.fraction("none with one colour", 0, 1, b -> sure(-5).mean(0, 4, true, b));
+        Check.fraction("its mean is the least", -20, 1, b -> sure(-5).mean(0, 4, false, b));
+        Check.fraction("or the most", 20, 1, b -> sure(5).mean(0, 4, false, b));
+        Check.fraction("none with two that pay alike", 0, 1, b -> coin(-3, -3).mean(0, 3, true, b));
+        Check.fraction("none, when all is drawn", 0, 1, b -> Made.paying(Made.counts(1, 1, 1), -1, 5, -5, 1).mean(0, 3, true, b));
+    }
+
     private static void given() {
         Check.sentence("Returns the mean YIELD of the GAME, given that, as a FRACTION.");
         Urnwright x = Made.paying(Made.counts(1, 1, 0), 0, 5, -4);
@@ -823,6 +848,8 @@ public final class EdgeTest {
 
     private static void nothing() {
         Check.sentence("Creates a court without URNS.");
+        Urnwright another = Made.full();
+        long before = another.digest();
         Urnwright x = Made.empty();
         manyOf("of all", x, 0, 0, 0, 0, 0, 0, 0);
         Check.same("digest", 58240L * 31 * 31 * 31 * 31 * 31 * 31 * 31, x::digest);
@@ -839,6 +866,7 @@ public final class EdgeTest {
         Check.fraction("and decks", 1, 2, b -> x.far(2, 0, b));
         Check.same("the first urn is 0", 0, () -> x.urn(0, 0, 1, 0));
         Check.same("the first row is 0", 0, () -> x.row(0, 0, 0, 0, 1));
+        Check.same("another object stays as it was", before, another::digest);
     }
 
     private static void allDrawn() {
